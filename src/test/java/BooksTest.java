@@ -217,7 +217,14 @@ public final class BooksTest {
         CHECK.due("age moved up", x.has(1, 1, 1), 33);
         CHECK.due("hand moved up", x.has(1, 0, 2), 44);
         CHECK.due("the first stays", x.of(0, 1), 10);
+        CHECK.due("parish moved up", x.of(1, 0), 0);
+        CHECK.due("mark moved up", x.has(1, 1, 0), 1);
+        x.set(0, 0, 3, 8);
+        x.set(1, 0, 3, 8);
+        x.set(1, 0, 2, 0);
+        CHECK.due("drawn", x.kind(0, 0), 4);
         CHECK.due("tear the last", x.tear(1), 1);
+        CHECK.due("no more drawn", x.kind(0, 0), 3);
         CHECK.due("tear the only one", x.tear(0), 0);
         CHECK.due("tear of none", x.tear(0), -1);
     }

@@ -91,6 +91,19 @@ public final class ChoicesTest {
             CHECK.due("best(0, " + w[0] + ", " + w[1] + ", " + w[2] + ")", x.best(0, w[0], w[1], w[2]), w[3]);
         }
         CHECK.due("best(2, ..)", x.best(2, 0, 1, 0), -1);
+        // 7 of 10 is more than 2 of 3, though it has more crosses, too
+        CrossOrName y = Check.landOf("parish 5;parish 6;");
+        for (int m = 0; m < 5; m++) {
+            y.marry(1, 0, m, 1, m < 2 ? 1 : 0);
+        }
+        y.marry(0, 0, 0, 1, 0);
+        y.marry(0, 0, 0, 1, 0);
+        y.marry(0, 0, 0, 1, 1);
+        CHECK.due("7 of 10 against 4 of 6", y.best(0, 0, 1, 0), 1);
+        y.set(7, 1, 0, 0);
+        y.set(6, 1, 0, 1);
+        y.set(5, 1, 0, 1);
+        CHECK.due("7 of 10 against 5 of 6", y.best(0, 0, 1, 0), 0);
         x.choose(1, 2, 30, 30, 3, 255);
         CHECK.due("a share of 0 is one", x.best(1, 0, 1, 0), 1);
         CHECK.due("able of it", x.best(1, 0, 1, 2), 0);
@@ -110,6 +123,8 @@ public final class ChoicesTest {
         }
         x.choose(0, 3, 0, 89, 2, 255);
         CHECK.due("brides alone are no pairs", x.pairs(0, 2), 0);
+        x.choose(0, 3, 0, 89, 1, 255);
+        CHECK.due("grooms alone are no pairs", x.pairs(0, 2), 0);
         CHECK.due("pairs(0, 4)", x.pairs(0, 4), -1);
         CHECK.due("pairs(0, -1)", x.pairs(0, -1), -1);
         CHECK.due("pairs(2, 0)", x.pairs(2, 0), -1);
@@ -212,6 +227,11 @@ public final class ChoicesTest {
         x.set(0, 1, 1, 29);
         CHECK.due("two in 80", x.tens(0, 0), 80);
         CHECK.due("two of them", x.tens(0, 1), 2);
+        x.marry(0, 0, 0, 1, 1);
+        x.marry(0, 0, 0, 1, 1);
+        CHECK.due("those without age are not looked at", x.tens(0, 0), 80);
+        x.choose(1, 1, 0, 88, 3, 255);
+        CHECK.due("by choice 1", x.tens(1, 0), 0);
         CHECK.due("tens(2, 0)", x.tens(2, 0), -1000);
         CHECK.due("tens(0, 2)", x.tens(0, 2), -1000);
         CHECK.due("tens(0, -1)", x.tens(0, -1), -1000);

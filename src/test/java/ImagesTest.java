@@ -5,6 +5,7 @@ public final class ImagesTest {
     public static void main(String[] args) {
         keepAndBack();
         backInAnotherLand();
+        backLosesParishesForGood();
         sheet();
         lay();
         readWhole();
@@ -69,6 +70,23 @@ public final class ImagesTest {
         CHECK.due("the image had its parish still", x.many(1, 0), 2);
     }
 
+    private static void backLosesParishesForGood() {
+        CrossOrName x = Check.landOf("parish 5;parish 6;");
+        x.marry(0, 10, 0, 1, 1);
+        x.choose(1, 2, 0, 89, 3, 255);
+        x.keep(0);
+        Check.tell(x, "parish 9;");
+        x.back(0);
+        x.keep(1);
+        Check.tell(x, "parish 5;parish 6;");
+        CHECK.due("back(1)", x.back(1), 1);
+        x.marry(1, 0, 0, 1, 1);
+        CHECK.due("choice 0 has parish 0 alone", x.many(0, 0), 2);
+        CHECK.due("choice 1 has none", x.many(1, 0), 0);
+        Check.tell(x, "");
+        CHECK.due("the first marriage's parish is not there", x.back(0), -2);
+    }
+
     private static void sheet() {
         CrossOrName x = new CrossOrName();
         CHECK.due("sheet(0, 0, 0)", x.sheet(0, 0, 0), 1);
@@ -94,6 +112,8 @@ public final class ImagesTest {
         CHECK.due("lay(0, 0)", x.lay(0, 0, 0), 1);
         CHECK.due("lay(0, 4)", x.lay(0, 4, 0), 1);
         CHECK.due("lay(0, 5)", x.lay(0, 5, 0), -12);
+        x.sheet(1, 0, 0);
+        CHECK.due("a sheet of no cells", x.lay(1, 0, 0), -12);
         CHECK.due("lay(0, -1)", x.lay(0, -1, 0), -12);
         CHECK.due("lay(4)", x.lay(4, 0, 0), -1);
         CHECK.due("lay(-1)", x.lay(-1, 0, 0), -1);
@@ -122,8 +142,10 @@ public final class ImagesTest {
         for (int i = 0; i < cells.length; i++) {
             x.lay(3, i, cells[i]);
         }
+        CHECK.due("kinds ahead of it", x.many(0, 13), 2);
         CHECK.due("read two", x.read(3, 1, 1, 2), 2);
         CHECK.due("not torn", x.torn(), 0);
+        CHECK.due("kinds of what came", x.many(0, 13), 4);
         int[][] want = {{1, 20, 3, 0, 1}, {0, 30, 4, 1, 0}};
         for (int i = 0; i < 2; i++) {
             for (int what = 0; what < 3; what++) {
@@ -158,6 +180,12 @@ public final class ImagesTest {
         CHECK.due("three came in all", x.count(0), 3);
         x.sheet(0, 0, 0);
         CHECK.due("of no cells", x.read(0, 0, 0, 1), 0);
+        x.sheet(0, 0, 5);
+        x.lay(0, 0, 1);
+        x.sheet(0, 0, 5);
+        CHECK.due("the cells of a new sheet are 0", x.read(0, 0, 0, 1), 1);
+        x.sheet(0, 0, 0);
+        x.read(0, 0, 0, 1);
         CHECK.due("torn: index", x.torn(), 2);
     }
 

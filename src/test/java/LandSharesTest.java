@@ -65,6 +65,15 @@ public final class LandSharesTest {
         CHECK.due("then the other", x.next(2), 3);
         CHECK.due("then the smallest", x.next(10), 0);
         CHECK.due("then none", x.next(11), -4);
+        x.choose(1, 0, 0, 89, 3, 255);
+        CHECK.due("choice 1 is not asked", x.next(0), 1);
+        x.choose(0, 9, 0, 89, 3, 255);
+        CHECK.due("choice 0 is", x.next(0), 3);
+        CHECK.due("one that it leaves out", x.next(2), -1);
+        x.choose(0, 14, 0, 89, 3, 255);
+        CHECK.due("the first one without marks", x.next(1), -1);
+        x.choose(0, 15, 0, 89, 1, 255);
+        CHECK.due("a single mark is enough", x.next(10), 0);
         CHECK.due("one without marks", x.next(4), -1);
         CHECK.due("one there is not", x.next(16), -1);
         CHECK.due("below 0", x.next(-1), -1);
@@ -78,6 +87,10 @@ public final class LandSharesTest {
         for (int[] w : want) {
             CHECK.due("enough(" + w[0] + ", " + w[1] + ", " + w[2] + ")", x.enough(w[0], w[1], w[2]), w[3]);
         }
+        x.choose(1, 0, 0, 89, 3, 255);
+        CHECK.due("choice 1 is not asked", x.enough(3, 4, 1), 2);
+        x.choose(0, 9, 0, 89, 3, 255);
+        CHECK.due("choice 0 is", x.enough(3, 4, 1), 8);
         // of two that are enough the least bits, though others are greater
         CrossOrName y = Check.landOf("parish 5;parish 4;parish 9;parish 2;");
         for (int p = 0; p < 4; p++) {
@@ -152,6 +165,13 @@ public final class LandSharesTest {
         CHECK.due("parts(0, -1)", x.parts(0, -1), -1);
         x.choose(1, 0, 0, 89, 3, 255);
         expectParts(x, 0, new int[] {-4, -4, -4, -4, -4, -4});
+        x.choose(1, 3, 0, 89, 3, 255);
+        x.choose(0, 0, 0, 89, 3, 255);
+        expectParts(x, 0, new int[] {-4, -4, -4, -4, -4, -4});
+        // a single mark in each
+        x.choose(0, 1, 0, 9, 2, 255);
+        x.choose(1, 1, 0, 9, 1, 255);
+        expectParts(x, 0, new int[] {0, 1, 1, 1, 1, 1});
     }
 
     private static void partsWithoutAGroup() {
@@ -182,6 +202,8 @@ public final class LandSharesTest {
         CHECK.fraction("below 0", x.worth(0, 41, 0), x.worth(0, 41, 1), -1, 2);
         // school in parish 1: 0 of 2 less 1 of 2; elsewhere 2 of 2 less 4 of 6
         CHECK.fraction("of a school", x.worth(1, 41, 0), x.worth(1, 41, 1), -5, 6);
+        CHECK.due("no parish with a mill has marks ahead of 0", x.worth(0, 0, 0), -1000004);
+        CHECK.due("none is without a school ahead of 0", x.worth(1, 0, 0), -1000004);
         x.choose(0, 3, 0, 89, 3, 255);
         CHECK.due("by choice 0", x.worth(0, 41, 0), -1000004);
         CHECK.due("kind 2", x.worth(2, 0, 0), -1000000);

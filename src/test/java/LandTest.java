@@ -96,6 +96,9 @@ public final class LandTest {
         bad("7;", 0, 2);
         bad("parishes 1;", 0, 2);
         bad("paris 1;", 0, 2);
+        bad("xarish 1;", 0, 2);
+        bad("parisx 1;", 0, 2);
+        bad("parish 1;zz", 9, 2);
         bad("town;", 0, 2);
         bad("parish", 6, 2);
         bad("parish  ", 8, 2);

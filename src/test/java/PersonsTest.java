@@ -27,6 +27,9 @@ public final class PersonsTest {
         x.set(1, 0, 3, 7);
         x.set(1, 0, 2, 255);
         expectPerson(x, "a name later, though a clerk wrote it", new int[] {3, 2, 1, 0, 8});
+        x.set(1, 0, 2, 0);
+        CHECK.due("two names that are not apart", x.person(7, 4), 0);
+        x.set(1, 0, 2, 255);
         x.set(0, 0, 3, 0);
         expectPerson(x, "names alone", new int[] {2, 2, 0, 0, 8});
         x.set(1, 1, 3, 7);
@@ -54,6 +57,12 @@ public final class PersonsTest {
         CHECK.due("twice", x.twice(0), 1);
         CHECK.due("the least", x.twice(1), 99);
         CHECK.due("crosses alone", x.twice(2), 0);
+        x.set(0, 0, 0, 1);
+        x.set(1, 0, 0, 1);
+        CHECK.due("names alone", x.twice(2), 0);
+        CHECK.due("asked again", x.twice(0), 1);
+        x.set(0, 0, 0, 0);
+        x.set(1, 0, 0, 0);
         x.set(1, 1, 3, 1);
         x.set(2, 0, 3, 1);
         CHECK.due("two persons", x.twice(0), 2);
@@ -78,6 +87,9 @@ public final class PersonsTest {
         for (int[] w : want) {
             CHECK.due("find(" + w[0] + ", " + w[1] + ", " + w[2] + ")", x.find(w[0], w[1], w[2]), w[3]);
         }
+        x.set(2, 0, 2, 255);
+        x.set(2, 1, 2, 255);
+        CHECK.due("the last hand there is", x.find(1, 0, 0), 255);
         x.set(2, 0, 0, 0);
         x.set(2, 1, 0, 0);
         CHECK.due("crosses alone", x.find(1, 4, 1), -4);
