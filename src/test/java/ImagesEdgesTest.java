@@ -86,6 +86,9 @@ public final class ImagesEdgesTest {
             x.tear(m);
         }
         CHECK.due("none", x.count(0), 0);
+        for (int m = 0; m < 40; m++) {
+            x.marry(11 - m % 12, 89 - m, 7 - m % 8, 0, 1 - m % 2);
+        }
         CHECK.due("back", x.back(1), 40);
         for (int m = 0; m < 40; m++) {
             CHECK.due("parish", x.of(m, 0), m % 12);

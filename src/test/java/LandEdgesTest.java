@@ -10,6 +10,7 @@ public final class LandEdgesTest {
         newObjectHasNoParishes();
         newObjectHasNoMarks();
         newObjectHasNoSheetsNorImages();
+        the512thCallIsAnsweredAsTheFirst();
         feedTakesTheHighestByteFirst();
         feedIsFullBeyond320();
         feedRefusedKeepsTheTape();
@@ -29,6 +30,7 @@ public final class LandEdgesTest {
         aFaultChangesTheTapeAndTheFaultAlone();
         aLandThatIsTakenLeavesImagesAndSheets();
         aLandOfNothing();
+        whatNoLineTellsIsAsAtFirst();
         faultIsOfTheLatestLand();
         partsOfTriedByThemselves();
         parishAtItsBounds();
@@ -99,6 +101,23 @@ public final class LandEdgesTest {
         CHECK.due("back to image 0", x.back(0), STATE);
         CHECK.due("back to image 1", x.back(1), STATE);
         CHECK.due("images", x.count(3), 0);
+    }
+
+    private static void the512thCallIsAnsweredAsTheFirst() {
+        CrossOrName x = new CrossOrName();
+        int calls = 0;
+        for (int round = 0; round < 85; round++) {
+            CHECK.due("feed 'parish 9'", x.feed(0x7061726973682039L), 8);
+            CHECK.due("feed ';'", x.feed(0x3b20202020202020L), 16);
+            CHECK.due("land", x.land(), 1);
+            CHECK.due("marry", x.marry(0, round, 0, 1, 0), 0);
+            CHECK.due("keep", x.keep(1), round == 0 ? 0 : 1);
+            CHECK.due("parish", x.parish(0, 0), 9);
+            calls += 6;
+        }
+        CHECK.due("call number 511", x.back(1), 1);
+        CHECK.due("call number 512", x.of(0, 1), 84);
+        CHECK.due("calls", calls + 2, 512);
     }
 
     // ---- promises 2 and 3, the tape
@@ -466,6 +485,32 @@ public final class LandEdgesTest {
         CHECK.due("a choice of a parish that there is not", x.choose(0, 1, 0, 89, 3, 255), BAD);
         CHECK.due("choice 1 is as at first", x.many(1, 0), 0);
         CHECK.due("span", x.span(0, 0), NONE);
+    }
+
+    /** Whatever was told in any text ahead, taken or not. */
+    private static void whatNoLineTellsIsAsAtFirst() {
+        String all = "parish 5 town mill 1 school 2;clerk 0 1 2 3 4;learn 7;ages 17 18;never 8;picture 3;"
+                + "tried cross 4 5;tried name 6 7;";
+        String[][] ahead = {{all}, {all, all}, {all, ""}, {all, "", all}, {all + "$"}, {all, all + "$"}, {all + "$", all}};
+        int[] first = {0, 0, 11, 20, 35, 0, 1, 0, 1, 1, 1};
+        for (String[] texts : ahead) {
+            CrossOrName x = new CrossOrName();
+            for (String text : texts) {
+                Check.tell(x, text);
+            }
+            CHECK.due("a land of no lines", x.land(), 0);
+            for (int what = 0; what < first.length; what++) {
+                CHECK.due("told(" + what + ") behind " + texts.length + " texts", x.told(what), first[what]);
+            }
+            CHECK.due("a parish alone", Check.tell(x, "parish 6;"), 1);
+            CHECK.due("its town", x.parish(0, 1), 0);
+            CHECK.due("its mill", x.parish(0, 2), NONE);
+            CHECK.due("its school", x.parish(0, 3), NONE);
+            CHECK.due("its clerk", x.clerk(0, 0), BAD);
+            for (int what = 1; what < first.length; what++) {
+                CHECK.due("told(" + what + ") beside it", x.told(what), first[what]);
+            }
+        }
     }
 
     private static void faultIsOfTheLatestLand() {
