@@ -26,6 +26,8 @@ public final class BooksEdgesTest {
         sparedByNamedAlone();
         theLastKindThatFits();
         kindsFollowEveryChange();
+        whatHasGoneMakesNoKind();
+        kindsOfAFullBook();
         apartAtItsBounds();
         tearAtItsBounds();
         tearMovesAllUp();
@@ -416,6 +418,44 @@ public final class BooksEdgesTest {
         x.read(0, 0, 0, 1);
         CHECK.due("one that was read", x.kind(2, 0), 3);
         CHECK.due("its bride", x.kind(2, 1), 1);
+    }
+
+    private static void whatHasGoneMakesNoKind() {
+        CrossOrName x = Check.landOf("parish 5;");
+        x.marry(0, 9, 0, 0, 0);
+        x.marry(0, 5, 0, 1, 0);
+        x.set(0, 0, 3, 7);
+        x.set(1, 0, 3, 7);
+        CHECK.due("a name ahead", x.kind(0, 0), 2);
+        x.tear(1);
+        CHECK.due("the last one has gone", x.kind(0, 0), 1);
+        x.set(0, 0, 0, 1);
+        x.marry(0, 5, 0, 1, 0);
+        x.set(1, 0, 3, 7);
+        CHECK.due("drawn", x.kind(0, 0), 4);
+        x.tear(1);
+        CHECK.due("the last one has gone again", x.kind(0, 0), 3);
+    }
+
+    private static void kindsOfAFullBook() {
+        CrossOrName x = Check.landOf("parish 5;clerk 0 79 79 0 0;");
+        for (int m = 0; m < 40; m++) {
+            x.marry(0, 40 + m, 0, m < 20 ? 0 : 1, 0);
+            x.set(m, 0, 3, m + 1);
+            x.set(m, 1, 3, m + 41);
+        }
+        CHECK.due("crosses of whom no name is known", x.many(0, 11), 60);
+        CHECK.due("names of whom no other is known", x.many(0, 13), 19);
+        CHECK.due("the last one is written", x.kind(39, 0), 5);
+        CHECK.due("the last bride", x.kind(39, 1), 1);
+        x.set(39, 1, 3, 39);
+        CHECK.due("the last bride is spared", x.kind(39, 1), 2);
+        x.set(39, 1, 0, 1);
+        x.set(39, 1, 2, 128);
+        CHECK.due("the last bride's name is drawn", x.kind(39, 1), 4);
+        CHECK.due("with the one ahead of it", x.kind(38, 0), 4);
+        CHECK.due("all marks", x.many(0, 0), 80);
+        CHECK.due("able", x.many(0, 1), 18);
     }
 
     // ---- promises 15 and 16

@@ -22,6 +22,7 @@ public final class LandEdgesTest {
         numbersAtTheirBounds();
         numbersBeyondTheirBounds();
         boundsThatDependOnAnotherNumber();
+        eachTokenInEachPlace();
         theEndIsWhereTheTapeEnds();
         theFirstFaultMet();
         secondTimes();
@@ -333,6 +334,35 @@ public final class LandEdgesTest {
     }
 
     // ---- faults
+
+    /** Each token of each line in turn gives way to one that can not stand there, to no token, and to the end. */
+    private static void eachTokenInEachPlace() {
+        String[] lines = {"parish 5 town mill 1 school 2 ;", "parish 5 ;", "clerk 0 1 2 3 4 ;", "tried cross 1 2 ;",
+            "tried name 1 2 ;", "learn 5 ;", "ages 20 30 ;", "never 5 ;", "picture 5 ;"};
+        for (String line : lines) {
+            expect("parish 1;" + line, 2, 0);
+            String[] tokens = line.split(" ");
+            int place = "parish 1;".length();
+            for (String token : tokens) {
+                String ahead = "parish 1;" + line.substring(0, place - "parish 1;".length());
+                String behind = line.substring(ahead.length() - "parish 1;".length() + token.length());
+                boolean first = ahead.endsWith(";");
+                boolean optional = token.equals("town") || token.equals("mill") || token.equals("school");
+                boolean number = Character.isDigit(token.charAt(0));
+                expect(ahead + "$" + behind, -10 - place, 1);
+                expect(ahead + "1234" + behind, -10 - place, 1);
+                expect(ahead + "zzz" + behind, -10 - place, 2);
+                if (!number) {
+                    expect(ahead + "7" + behind, -10 - place, 2);
+                }
+                if (!optional && !token.equals(";")) {
+                    expect(ahead + ";" + behind, -10 - place, 2);
+                }
+                expect(ahead, first ? 1 : -10 - place, first ? 0 : 2);
+                place += token.length() + 1;
+            }
+        }
+    }
 
     private static void theEndIsWhereTheTapeEnds() {
         expect("parish", -16, 2);
